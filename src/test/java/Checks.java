@@ -85,6 +85,14 @@ final class Checks {
         }
     }
 
+    /** Wants a letter and types it, right for each r of the text and wrong for each other sign. */
+    static void follow(TypingCoach coach, int letter, String strokes) {
+        for (char sign : strokes.toCharArray()) {
+            coach.want(letter);
+            coach.stroke(sign == 'r' ? letter : (letter + 13) % 26, 1);
+        }
+    }
+
     static void finish() {
         System.out.println(wrong == 0 ? made + " answers are as due" : wrong + " answers are not as due");
         System.exit(wrong == 0 ? 0 : 1);

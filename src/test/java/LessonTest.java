@@ -223,6 +223,10 @@ public final class LessonTest {
         coach.back(1);
         Checks.due("all are mended", coach.speed(), 0);
         TypingCoach fast = new TypingCoach();
+        fast.want(0);
+        fast.stroke(0, 1);
+        Checks.due("a lesson of a millisecond", fast.speed(), 60000);
+        fast.end();
         for (int k = 0; k < 40; k++) {
             fast.want(0);
             fast.stroke(0, 1);

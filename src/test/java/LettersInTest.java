@@ -35,6 +35,15 @@ public final class LettersInTest {
         Checks.fail(shares, 0, 25, 1);
         Checks.due("share", shares.share(0), 2086);
         Checks.due("the share is more than 1000", shares.isGood(0), false);
+        TypingCoach exact = new TypingCoach();
+        Checks.follow(exact, 0, "wwrrrrrrrrwrrrrr");
+        Checks.due("share", exact.share(0), 1000);
+        Checks.due("the wished share itself", exact.isGood(0), true);
+        Checks.follow(exact, 1, "wrwrrwrwrrrrrrrrr");
+        Checks.due("share", exact.share(1), 1001);
+        Checks.due("a ten thousandth more", exact.isGood(1), false);
+        Checks.follow(exact, 1, "r");
+        Checks.due("rounded down", exact.share(1), 875);
     }
 
     private static void wishes() {
@@ -96,6 +105,15 @@ public final class LettersInTest {
             Checks.practise(coach, letter, 400, 3);
         }
         Checks.due("all are in", coach.end(), -1);
+        for (int lazy = 0; lazy < 4; lazy++) {
+            TypingCoach three = new TypingCoach();
+            for (int letter = 0; letter < 4; letter++) {
+                Checks.practise(three, letter, 1, letter == lazy ? 2 : 3);
+            }
+            Checks.due("all but " + lazy + " are good", three.end(), -1);
+            Checks.practise(three, lazy, 1, 1);
+            Checks.due("all are good", three.end(), 4);
+        }
         TypingCoach known = new TypingCoach();
         known.wish(5000, 10000);
         for (int letter = 0; letter < 5; letter++) {
@@ -148,6 +166,14 @@ public final class LettersInTest {
     }
 
     private static void takenOutAndLetInAgain() {
+        TypingCoach exact = withSixLetters();
+        Checks.follow(exact, 4, "wwwwrrwwrwrw");
+        Checks.due("share", exact.share(4), 5000);
+        Checks.follow(exact, 5, "wrrrrwwrwww");
+        Checks.due("share", exact.share(5), 5001);
+        Checks.due("5 is taken out", exact.end(), -1);
+        Checks.due("a share of 5000 stays in", exact.isIn(4), true);
+        Checks.due("a share of 5001 does not", exact.isIn(5), false);
         TypingCoach edges = withSixLetters();
         Checks.fail(edges, 4, 25, 5);
         Checks.due("share", edges.share(4), 4869);
