@@ -9,7 +9,7 @@ public final class DaysTest {
 
     private static void lessonsAndSpeeds() {
         TypingCoach coach = new TypingCoach();
-        Checks.dueThrow("speedOf(0)", Checks.INDEX, coach, () -> coach.speedOf(0));
+        Checks.dueThrow("speedOf(0)", Checks.INDEX, () -> coach.speedOf(0));
         coach.end();
         Checks.due("lessons", coach.lessons(), 1);
         Checks.due("speedOf(0)", coach.speedOf(0), 0);
@@ -22,7 +22,7 @@ public final class DaysTest {
         Checks.due("speedOf(0)", coach.speedOf(0), 0);
         Checks.due("speedOf(1)", coach.speedOf(1), 300);
         for (int bad : new int[] {-1, 2, 100, Integer.MIN_VALUE, Integer.MAX_VALUE}) {
-            Checks.dueThrow("speedOf", Checks.INDEX, coach, () -> coach.speedOf(bad));
+            Checks.dueThrow("speedOf", Checks.INDEX, () -> coach.speedOf(bad));
         }
     }
 

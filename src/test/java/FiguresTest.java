@@ -6,7 +6,6 @@ public final class FiguresTest {
         figuresOfPairs();
         errors();
         fingersAsTheyWere();
-        wrongInputs();
         Checks.finish();
     }
 
@@ -114,23 +113,5 @@ public final class FiguresTest {
         Checks.fail(coach, 9, 25, 1);
         Checks.due("errorsOf(7)", coach.errorsOf(7), 2);
         Checks.due("errorsOf(1)", coach.errorsOf(1), 1);
-    }
-
-    private static void wrongInputs() {
-        TypingCoach coach = new TypingCoach();
-        Checks.fail(coach, 0, 25, 2);
-        for (int bad : new int[] {-1, 26, 675, Integer.MIN_VALUE, Integer.MAX_VALUE}) {
-            Checks.dueThrow("count", Checks.INDEX, coach, () -> coach.count(bad));
-            Checks.dueThrow("time", Checks.INDEX, coach, () -> coach.time(bad));
-            Checks.dueThrow("share", Checks.INDEX, coach, () -> coach.share(bad));
-            Checks.dueThrow("pairTime", Checks.INDEX, coach, () -> coach.pairTime(bad, 0));
-            Checks.dueThrow("pairTime", Checks.INDEX, coach, () -> coach.pairTime(0, bad));
-        }
-        for (int bad : new int[] {-1, 5, Integer.MIN_VALUE, Integer.MAX_VALUE}) {
-            Checks.dueThrow("errors", Checks.ARGUMENT, coach, () -> coach.errors(bad));
-        }
-        for (int bad : new int[] {-1, 8, Integer.MIN_VALUE, Integer.MAX_VALUE}) {
-            Checks.dueThrow("errorsOf", Checks.ARGUMENT, coach, () -> coach.errorsOf(bad));
-        }
     }
 }

@@ -7,7 +7,6 @@ public final class LettersInTest {
         lettingIn();
         takingOut();
         takenOutAndLetInAgain();
-        wrongInputs();
         Checks.finish();
     }
 
@@ -203,20 +202,6 @@ public final class LettersInTest {
         Checks.due("4 is taken out, none is let in", middle.end(), -1);
         Checks.due("5 stays", middle.isIn(5), true);
         Checks.due("4 is let in", middle.end(), 4);
-    }
-
-    private static void wrongInputs() {
-        TypingCoach coach = withSixLetters();
-        for (int bad : new int[] {-1, 26, Integer.MIN_VALUE, Integer.MAX_VALUE}) {
-            Checks.dueThrow("isIn", Checks.INDEX, coach, () -> coach.isIn(bad));
-            Checks.dueThrow("isGood", Checks.INDEX, coach, () -> coach.isGood(bad));
-        }
-        for (int bad : new int[] {0, -1, 5001, Integer.MIN_VALUE, Integer.MAX_VALUE}) {
-            Checks.dueThrow("wish time", Checks.ARGUMENT, coach, () -> wish(coach, bad, 0));
-        }
-        for (int bad : new int[] {-1, 10001, Integer.MIN_VALUE, Integer.MAX_VALUE}) {
-            Checks.dueThrow("wish share", Checks.ARGUMENT, coach, () -> wish(coach, 1, bad));
-        }
     }
 
     private static Object wish(TypingCoach coach, int time, int share) {

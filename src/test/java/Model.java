@@ -51,6 +51,11 @@ final class Model {
         }
     }
 
+    /** The letter that is to be typed next, or -1; no call of the document. */
+    int due() {
+        return position < wanted.size() ? wanted.get(position) : -1;
+    }
+
     private static String place(int column, int row) {
         return "" + column + row;
     }

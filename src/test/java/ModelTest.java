@@ -1,10 +1,13 @@
+import java.util.ArrayList;
 import java.util.Arrays;
+import java.util.List;
 import java.util.Random;
 
 /** Long runs of calls, right and wrong ones, compared with the model call by call. All promises. */
 public final class ModelTest {
     private static final int RUNS = 600;
     private static final int CALLS = 512;
+    private static final int QUESTIONS = 200;
     private static final int KINDS_OF_CALLS = 29;
     private static final int STROKE = 9;
     private static final int[] EDGES = {
@@ -25,20 +28,21 @@ public final class ModelTest {
         Model model = new Model();
         int[] weights = weights(seed % 4);
         boolean isCareful = seed % 2 == 0;
+        int[][] calls = new int[CALLS][];
         for (int k = 0; k < CALLS; k++) {
             int number = drawn(weights, random);
-            int[] with = new int[3];
+            int[] call = {number, 0, 0, 0};
             for (int place = 0; place < 3; place++) {
-                with[place] = argument(number, place, random, isCareful && random.nextInt(30) > 0);
+                call[place + 1] = argument(number, place, random, isCareful && random.nextInt(30) > 0);
             }
-            if (number == STROKE && coach.position() < coach.wanted() && random.nextInt(8) > seed % 6) {
-                with[0] = coach.wantedAt(coach.position());
+            if (number == STROKE && model.due() != TypingCoach.NONE && random.nextInt(8) > seed % 6) {
+                call[1] = model.due();
             }
-            Object want = model.call(number, with[0], with[1], with[2]);
-            String told = "run " + seed + ", call " + k + ": number " + number + " with " + with[0] + ", " + with[1];
-            Checks.due(told, answer(coach, number, with[0], with[1], with[2]), want);
+            calls[k] = call;
+            String told = "run " + seed + ", call " + k + ": " + Arrays.toString(call);
+            Checks.due(told, answer(coach, call), answer(model, call));
         }
-        compareAll(seed, coach, model);
+        compareAll(seed, Arrays.copyOf(calls, CALLS - QUESTIONS));
     }
 
     /** How often each call is made: all alike, or runs that type, that end lessons, that lay the board. */
@@ -90,25 +94,50 @@ public final class ModelTest {
         return 1 + random.nextInt(random.nextBoolean() ? 5000 : 300);
     }
 
-    private static void compareAll(int seed, TypingCoach coach, Model model) {
+    /** All answers after these calls. Each coach is asked some questions only: after 512 calls it is free. */
+    private static void compareAll(int seed, int[][] calls) {
+        List<int[]> questions = questions();
+        Model model = new Model();
+        for (int[] call : calls) {
+            answer(model, call);
+        }
+        TypingCoach coach = null;
+        for (int k = 0; k < questions.size(); k++) {
+            if (k % QUESTIONS == 0) {
+                coach = new TypingCoach();
+                for (int[] call : calls) {
+                    answer(coach, call);
+                }
+            }
+            int[] question = questions.get(k);
+            String told = "run " + seed + ", at last: " + Arrays.toString(question);
+            Checks.due(told, answer(coach, question), answer(model, question));
+        }
+    }
+
+    private static List<int[]> questions() {
+        List<int[]> questions = new ArrayList<>();
         for (int number : new int[] {1, 3, 7, 14, 15, 16, 18, 19, 21, 22, 25}) {
             for (int a = -1; a < 101; a++) {
-                String told = "run " + seed + ", at last: number " + number + " with " + a;
-                Checks.due(told, answer(coach, number, a, 0, 0), model.call(number, a, 0, 0));
+                questions.add(new int[] {number, a, 0, 0});
             }
         }
         for (int a = 0; a < 26; a++) {
             for (int b = 0; b < 26; b++) {
-                String told = "run " + seed + ", at last with " + a + ", " + b;
-                Checks.due(told, answer(coach, 2, a, b, 0), model.call(2, a, b, 0));
-                Checks.due(told, answer(coach, 17, a, b, 0), model.call(17, a, b, 0));
+                questions.add(new int[] {2, a, b, 0});
+                questions.add(new int[] {17, a, b, 0});
             }
         }
+        return questions;
     }
 
-    private static Object answer(TypingCoach coach, int number, int a, int b, int c) {
+    private static Object answer(Model model, int[] call) {
+        return model.call(call[0], call[1], call[2], call[3]);
+    }
+
+    private static Object answer(TypingCoach coach, int[] call) {
         Object[] answer = new Object[1];
-        String thrown = Checks.nameOfThrown(() -> answer[0] = call(coach, number, a, b, c));
+        String thrown = Checks.nameOfThrown(() -> answer[0] = call(coach, call[0], call[1], call[2], call[3]));
         return thrown.equals("nothing") ? answer[0] : thrown;
     }
 
