@@ -186,6 +186,8 @@ public final class EndEdgesTest {
             "want 0; stroke 0 4980; end; want 0; stroke 0 5000; end; speedOf 0 = 12; speedOf 1 = 12; falls = 0");
         Script.check("falls: a little slower", "want 0; stroke 0 4615; end; want 0; stroke 0 4616; end; speedOf 0 = 13; falls = 1");
         Script.check("falls: down to the speed 0", fast + slow + "end; falls = 2; end; falls = 0");
+        Script.check("falls: 2, and 3, from which on a rest is due", fast + "want 0; stroke 0 15; end; " + slow
+            + "falls = 2; end; falls = 3; end; falls = 0");
         Script.check("falls: as fast breaks the row", fast + slow + slow + "falls = 0; end; falls = 1");
         Script.check("falls: a faster one breaks the row", fast + slow + "end; " + slow + "falls = 0; end; falls = 1");
         Script.check("falls: the lesson that goes on does not count", fast + slow + "want 0; stroke 0 5000; falls = 1");

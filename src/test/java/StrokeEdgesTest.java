@@ -143,6 +143,8 @@ public final class StrokeEdgesTest {
             "want 0; want 1; stroke 0 5000; stroke 1 5000; back 5000; " + "stroke 9 5000; back 5000; ".repeat(5) + "speed = 0");
         Script.check("speed: the last that is not 0 by rounding", "want 0; stroke 9 5000; " + "back 5000; stroke 9 5000; ".repeat(5)
             + "back 4999; stroke 0 1; speed = 1; want 1; stroke 9 1; speed = 0");
+        Script.check("speed: the longest lesson that calls allow", "want 0; want 1; stroke 0 5000; "
+            + "stroke 1 5000; back 5000; ".repeat(254) + "speed = 0");
         Script.check("speed: 0 in the next lesson", "want 0; stroke 0 1; end; speed = 0");
         Script.check("speed: the same the next day", "want 0; stroke 0 1; endDay; speed = 60000");
         Script.check("speed: refused calls have no time", "want 0; stroke 0 10; stroke 0 10 = State; back 5001 = Argument; speed = 6000");
