@@ -30,6 +30,7 @@ public final class LessonEdgesTest {
         Script.check("want: if 40 are wanted, no such letter comes first", FORTY + "want 26 = Index; want -1 = Index");
         Script.check("want: if 39 are wanted, no such letter is still none", "want 1; ".repeat(39) + "want 26 = Index; want 0 = 40");
         Script.check("want: 40 that are typed are still wanted", FORTY_TYPED + "want 0 = State");
+        Script.check("want: those that are typed are wanted still", "want 7; stroke 7 1; want 8 = 2; stroke 9 1; want 8 = 3");
         Script.check("want: going back makes no room", FORTY_TYPED + "back 1; back 1; want 0 = State");
         Script.check("want: the next lesson has room", FORTY + "want 0 = State; end; want 0 = 1");
         Script.check("want: the next day has none", FORTY + "endDay; want 0 = State");

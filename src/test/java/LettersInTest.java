@@ -203,9 +203,4 @@ public final class LettersInTest {
         Checks.due("5 stays", middle.isIn(5), true);
         Checks.due("4 is let in", middle.end(), 4);
     }
-
-    private static Object wish(TypingCoach coach, int time, int share) {
-        coach.wish(time, share);
-        return "nothing";
-    }
 }

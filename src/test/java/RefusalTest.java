@@ -14,7 +14,6 @@ public final class RefusalTest {
     private static final int[] NO_MILLIS = {0, -1, 5001, Integer.MIN_VALUE, Integer.MAX_VALUE};
     private static final int[] NO_SHARES = {-1, 10001, Integer.MIN_VALUE, Integer.MAX_VALUE};
 
-    private static final Script TELLING = Script.of(telling());
     private static final List<Script> GOING_ON = goingOn();
 
     public static void main(String[] args) {
@@ -184,40 +183,12 @@ public final class RefusalTest {
 
     /** Every answer after these calls, each on a coach that has not made more calls than the document allows. */
     private static List<String> answersAfter(Script history, Script refused) {
-        List<String> answers = new ArrayList<>();
         Script whole = history.and(refused);
-        int step = Script.MOST_CALLS - history.size() - 1;
-        for (int from = 0; from < TELLING.size(); from += step) {
-            answers.addAll(TELLING.part(from, from + step).answersAfter(whole));
-        }
+        List<String> answers = whole.told();
         for (Script script : GOING_ON) {
             answers.addAll(script.answersAfter(whole));
         }
         return answers;
-    }
-
-    /** All calls that only tell, for all arguments that can be answered in some state. */
-    private static String telling() {
-        StringBuilder text = new StringBuilder("wanted; position; speed; mended; weakest; lessons; falls; strokes; ");
-        for (int letter = 0; letter < 26; letter++) {
-            for (String call : new String[] {"finger", "mirror", "count", "time", "share", "isIn", "isGood"}) {
-                text.append(call).append(' ').append(letter).append("; ");
-            }
-            for (int other = 0; other < 26; other++) {
-                text.append("areBeside ").append(letter).append(' ').append(other).append("; ");
-                text.append("pairTime ").append(letter).append(' ').append(other).append("; ");
-            }
-        }
-        for (int place = 0; place < 40; place++) {
-            text.append("wantedAt ").append(place).append("; ");
-        }
-        for (int lesson = 0; lesson < 100; lesson++) {
-            text.append("speedOf ").append(lesson).append("; ");
-        }
-        for (int number = 0; number < 8; number++) {
-            text.append(number < 5 ? "errors " + number + "; " : "").append("errorsOf ").append(number).append("; ");
-        }
-        return text.toString();
     }
 
     /** Calls that show what no call tells: the strokes before, the lesson's time, empty places, wishes. */

@@ -26,6 +26,8 @@ final class Script {
         }
     }
 
+    private static final Script TELLING = of(telling());
+
     /** One call; due is empty where any answer will do. */
     private record Call(String told, Method method, Object[] arguments, String due) {
         String answer(TypingCoach coach) {
@@ -104,6 +106,25 @@ final class Script {
         return answers;
     }
 
+    /** What all calls that only tell answer after these calls, on as many new coaches as 512 calls each ask for. */
+    List<String> told() {
+        List<String> answers = new ArrayList<>();
+        int step = Math.max(MOST_CALLS - size(), 1);
+        for (int from = 0; from < TELLING.size(); from += step) {
+            answers.addAll(TELLING.part(from, from + step).answersAfter(this));
+        }
+        return answers;
+    }
+
+    /** These calls with the answers that are due, in the form of told(). */
+    List<String> dueAnswers() {
+        List<String> answers = new ArrayList<>();
+        for (Call call : calls) {
+            answers.add(call.told.split(" = ")[0] + " = " + call.due);
+        }
+        return answers;
+    }
+
     int size() {
         return calls.size();
     }
@@ -120,6 +141,30 @@ final class Script {
     }
 
     // ---- texts that scripts are made of
+
+    /** All calls that only tell, for all arguments that can be answered in some state. */
+    private static String telling() {
+        StringBuilder text = new StringBuilder("wanted; position; speed; mended; weakest; lessons; falls; strokes; ");
+        for (int letter = 0; letter < 26; letter++) {
+            for (String call : new String[] {"finger", "mirror", "count", "time", "share", "isIn", "isGood"}) {
+                text.append(call).append(' ').append(letter).append("; ");
+            }
+            for (int other = 0; other < 26; other++) {
+                text.append("areBeside ").append(letter).append(' ').append(other).append("; ");
+                text.append("pairTime ").append(letter).append(' ').append(other).append("; ");
+            }
+        }
+        for (int place = 0; place < 40; place++) {
+            text.append("wantedAt ").append(place).append("; ");
+        }
+        for (int lesson = 0; lesson < 100; lesson++) {
+            text.append("speedOf ").append(lesson).append("; ");
+        }
+        for (int number = 0; number < 8; number++) {
+            text.append(number < 5 ? "errors " + number + "; " : "").append("errorsOf ").append(number).append("; ");
+        }
+        return text.toString();
+    }
 
     /** Wants a letter and types it, right for each r and wrong for each w, after so many milliseconds. */
     static String typed(int letter, String strokes, int millis) {
